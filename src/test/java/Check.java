@@ -1,0 +1,68 @@
+import java.util.function.IntSupplier;
+
+/** What the tests share: it prints every answer that is not the one due, and counts them. */
+final class Check {
+    static final Class<?> UNKNOWN = IllegalArgumentException.class;
+    static final Class<?> RANGE = IndexOutOfBoundsException.class;
+    static final Class<?> STATE = IllegalStateException.class;
+    static final Class<?> ROOM = UnsupportedOperationException.class;
+
+    private static int checks = 0;
+    private static int wrong = 0;
+
+    private Check() {
+    }
+
+    static void equal(String what, long got, long want) {
+        checks++;
+        if (got != want) {
+            report(what + " answered " + got + ", due is " + want);
+        }
+    }
+
+    static void isTrue(String what, boolean holds) {
+        checks++;
+        if (!holds) {
+            report(what);
+        }
+    }
+
+    /** The class itself is due: one below it would come from the machine, not from a throw. */
+    static void refuses(String what, Class<?> want, Runnable call) {
+        checks++;
+        Class<?> got = null;
+        try {
+            call.run();
+        } catch (RuntimeException e) {
+            got = e.getClass();
+        }
+        if (got != want) {
+            report(what + " threw " + (got == null ? "nothing" : got.getName()) + ", due is " + want.getName());
+        }
+    }
+
+    /** An answer, or a refusal told as a text: the form in which two programs are compared. */
+    static String outcome(IntSupplier call) {
+        try {
+            return Integer.toString(call.getAsInt());
+        } catch (RuntimeException e) {
+            return "throws." + e.getClass().getSimpleName();
+        }
+    }
+
+    static void report(String text) {
+        wrong++;
+        System.out.println(text);
+    }
+
+    static int wrongSoFar() {
+        return wrong;
+    }
+
+    static void finish() {
+        System.out.println(wrong == 0 ? checks + " checks hold" : wrong + " of " + checks + " checks fail");
+        if (wrong != 0 || checks == 0) {
+            System.exit(1);
+        }
+    }
+}
