@@ -1,5 +1,3 @@
-import java.util.function.IntSupplier;
-
 /** What the tests share: it prints every answer that is not the one due, and counts them. */
 final class Check {
     static final Class<?> UNKNOWN = IllegalArgumentException.class;
@@ -38,15 +36,6 @@ final class Check {
         }
         if (got != want) {
             report(what + " threw " + (got == null ? "nothing" : got.getName()) + ", due is " + want.getName());
-        }
-    }
-
-    /** An answer, or a refusal told as a text: the form in which two programs are compared. */
-    static String outcome(IntSupplier call) {
-        try {
-            return Integer.toString(call.getAsInt());
-        } catch (RuntimeException e) {
-            return "throws." + e.getClass().getSimpleName();
         }
     }
 

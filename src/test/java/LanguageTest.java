@@ -23,6 +23,7 @@ public final class LanguageTest {
         lacks(code, "\\bstatic\\s*\\{");
         lacks(code, "\\bwhile\\b");
         throwsAreWritten(text);
+        rowsAreMadeOnce(code);
         parametersAreFew(code);
         methodsAreShort(code);
         Check.finish();
@@ -44,6 +45,17 @@ public final class LanguageTest {
             Check.isTrue("not a written throw: " + found.group(),
                 found.group().matches("throw new (IllegalArgument|IndexOutOfBounds|IllegalState|UnsupportedOperation)"
                     + "Exception\\((\"[^\"]*\")?\\);"));
+        }
+    }
+
+    /** "All memory is rows made once": what is made, but for exceptions, fills a final field. */
+    private static void rowsAreMadeOnce(String code) {
+        Matcher found = Pattern.compile("(\\w+ = |throw )?new [^;]*;").matcher(code);
+        while (found.find()) {
+            String made = found.group(1) == null ? "" : found.group(1);
+            String name = made.replace(" = ", "");
+            boolean isRow = !name.isEmpty() && code.matches("(?s).*private final [\\w\\[\\]]+ " + name.trim() + ";.*");
+            Check.isTrue("made outside a row: " + found.group(), made.equals("throw ") || isRow);
         }
     }
 

@@ -10,6 +10,7 @@ public final class PermitsTest {
         promise18MinutesInCommon();
         promise18Room();
         promise19Ground();
+        promise19GroundIsKept();
         promise20Clash();
         promise21Touches();
         Check.finish();
@@ -98,6 +99,8 @@ public final class PermitsTest {
         refusedBy(x, "space at first, one more", -3, 5, 6, 2);
         x.ground(0, 0, 999, 500);
         refusedBy(x, "space at first, a millimetre less", -3, 5, 6, 1);
+        x.ground(0, 0, 1, 499_999);
+        refusedBy(x, "space at first, a square millimetre less", -3, 5, 6, 1);
         x.rules(10_000_000, 0);
         x.ground(-10_000_000, -10_000_000, 10_000_000, 10_000_000);
         given(x, "the greatest ground", 1, 5, 6, 1_000_000);
@@ -196,6 +199,23 @@ public final class PermitsTest {
         given(x, "a ground told later leaves permits theirs", 3, 2, 3, 2);
         x.ground(2_000 + 4_999, 0, 9_000, 1_000);
         refusedBy(x, "near the ground of permit 2", 2, 2, 3, 1);
+    }
+
+    private static void promise19GroundIsKept() {
+        int far = 9_000_000;
+        InspectRows x = new InspectRows();
+        groundAt(x, far, far);
+        given(x, "a ground far from 0, 0", 0, 0, 10, 1);
+        groundAt(x, 0, 0);
+        given(x, "a ground at 0, 0", 1, 0, 10, 1);
+        groundAt(x, far, 0);
+        given(x, "a ground beside both", 2, 0, 10, 1);
+        groundAt(x, 0, far);
+        given(x, "a ground on the other side", 3, 0, 10, 1);
+        groundAt(x, far - SIDE - 4_999, far);
+        refusedBy(x, "near the far one's x1", 0, 0, 10, 1);
+        groundAt(x, far, far - SIDE - 4_999);
+        refusedBy(x, "near the far one's y1", 0, 0, 10, 1);
     }
 
     private static void promise20Clash() {

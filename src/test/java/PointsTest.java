@@ -126,6 +126,9 @@ public final class PointsTest {
         for (int i = 3; i < 30; i++) {
             Check.equal("point " + i, x.point(0, 0, 0, 0, 0), i);
         }
+        Check.equal("risk of the thirtieth", x.pointAt(29, 0), 0);
+        Check.equal("the thirtieth is due last", x.due(0, 29), 29);
+        Check.equal("none is due behind it", x.due(0, 30), -1);
         Check.refuses("a point more than 30", Check.ROOM, () -> x.point(0, 0, 0, 0, 0));
         checkPointRanges(x);
         Check.refuses("kind 5 without room: unknown first", Check.UNKNOWN, () -> x.point(5, 0, 0, 0, 0));

@@ -1,14 +1,20 @@
+import java.lang.reflect.InvocationTargetException;
+import java.lang.reflect.Method;
+import java.lang.reflect.Modifier;
 import java.util.ArrayList;
+import java.util.Arrays;
+import java.util.HashMap;
 import java.util.List;
+import java.util.Map;
 import java.util.Random;
-import java.util.function.IntSupplier;
 
 /**
- * Runs of 512 random calls, compared with the plain model. After each refusal, and now and then, the
- * whole state that can be asked for is compared, so that what is refused is seen to change nothing.
+ * Runs of 512 random calls, compared with the plain model. After one refusal in four, and after every
+ * sixteenth call, the whole state that can be asked for is compared too, so that what is refused is
+ * seen to change nothing.
  */
 public final class RandomRunsTest {
-    private static final int RUNS = 400;
+    private static final int RUNS = 300;
     private static final int CALLS = 512;
     private static final int EDGES_IN_100 = 6;
     private static final String[] NAMES = {
@@ -16,18 +22,26 @@ public final class RandomRunsTest {
         "due", "question", "list", "walk", "stop", "rules", "permit", "ground", "clash", "touches", "surprise",
     };
 
+    private static final Map<String, Method> OF_ROWS = methodsOf(InspectRows.class);
+    private static final Map<String, Method> OF_MODEL = methodsOf(PlainModel.class);
+
     private final Random random;
     private final InspectRows rows = new InspectRows();
     private final PlainModel model = new PlainModel();
     private final List<String> calls = new ArrayList<>();
     private final int[] liking = new int[NAMES.length];
-    private int todayAtMost = 0;
+    private int today = 0;
+    private int points = 0;
+    private int findings = 0;
+    private int permits = 0;
 
     private RandomRunsTest(int seed) {
         random = new Random(seed);
         for (int i = 0; i < liking.length; i++) {
             liking[i] = 1 + random.nextInt(8);
         }
+        // Each third of the runs is full of points, findings or permits before it ends.
+        liking[indexOf(new String[] {"point", "finding", "permit"}[seed % 3])] += 30;
     }
 
     public static void main(String[] args) {
@@ -52,6 +66,10 @@ public final class RandomRunsTest {
         }
     }
 
+    private static int indexOf(String name) {
+        return Arrays.asList(NAMES).indexOf(name);
+    }
+
     private String pick() {
         int all = 0;
         for (int one : liking) {
@@ -73,35 +91,46 @@ public final class RandomRunsTest {
             text.append(i == 0 ? "(" : ", ").append(args[i]);
         }
         text.append(args.length == 0 ? "()" : ")");
-        String got = Check.outcome(onRows(name, args));
-        String due = Check.outcome(onModel(name, args));
+        String got = outcome(OF_ROWS, rows, name, args);
+        String due = outcome(OF_MODEL, model, name, args);
         calls.add(text + "=" + got);
         Check.isTrue(text + " answered " + got + ", due is " + due, got.equals(due));
         if (!got.equals(due)) {
             return false;
         }
-        return !got.startsWith("throws.") || random.nextInt(4) != 0 || sameState();
+        boolean refused = got.startsWith("throws.");
+        if (!refused) {
+            count(name, due);
+        }
+        return !refused || random.nextInt(4) != 0 || sameState();
+    }
+
+    /** How many there are, so that most calls are of something that is there. */
+    private void count(String name, String answer) {
+        points += name.equals("point") ? 1 : 0;
+        permits += name.equals("permit") ? 1 : 0;
+        findings += name.equals("finding") ? 1 : name.equals("list") ? Integer.parseInt(answer) : 0;
     }
 
     private boolean sameState() {
         for (int what = 0; what < 5; what++) {
-            for (int point = 0; point < 30; point++) {
+            for (int point = 0; point <= points; point++) {
                 if (!sameAsked("pointAt", point, what)) {
                     return false;
                 }
             }
-            for (int finding = 0; finding < 100; finding++) {
+            for (int finding = 0; finding <= findings; finding++) {
                 if (!sameAsked("findingAt", finding, what)) {
                     return false;
                 }
             }
         }
         for (int i = 0; i < 8; i++) {
-            if (!sameAsked("stop", i) || !sameAsked("due", todayAtMost, i)) {
+            if (!sameAsked("stop", i) || !sameAsked("due", today, i)) {
                 return false;
             }
         }
-        for (int permit = 0; permit < 30; permit++) {
+        for (int permit = 0; permit <= permits; permit++) {
             if (!sameAsked("touches", permit)) {
                 return false;
             }
@@ -110,10 +139,10 @@ public final class RandomRunsTest {
     }
 
     private boolean sameAsked(String name, long... args) {
-        String got = Check.outcome(onRows(name, args));
-        String due = Check.outcome(onModel(name, args));
+        String got = outcome(OF_ROWS, rows, name, args);
+        String due = outcome(OF_MODEL, model, name, args);
         if (!got.equals(due)) {
-            Check.isTrue("then " + name + java.util.Arrays.toString(args) + " answered " + got + ", due is " + due, false);
+            Check.isTrue("then " + name + Arrays.toString(args) + " answered " + got + ", due is " + due, false);
         }
         return got.equals(due);
     }
@@ -125,6 +154,10 @@ public final class RandomRunsTest {
         }
         int[] edges = {low, high, low - 1, high + 1, low, high, Integer.MIN_VALUE, Integer.MAX_VALUE, 0, -1, -2};
         return edges[random.nextInt(edges.length)];
+    }
+
+    private int oneOf(int count) {
+        return some(0, Math.max(0, count - 1));
     }
 
     private int small(int low, int high, int mostly) {
@@ -145,35 +178,35 @@ public final class RandomRunsTest {
             case "day":
                 return new long[] {nextDay()};
             case "visit":
-                return new long[] {some(0, 12)};
+                return new long[] {oneOf(points)};
             case "finding":
-                return new long[] {some(0, 12), small(1, 50, 8), random.nextInt(3) == 0 ? -1 : small(0, 1_000, 20)};
+                return new long[] {oneOf(points), small(1, 50, 8), random.nextInt(3) == 0 ? -1 : small(0, 1_000, 20)};
             case "done":
-                return new long[] {small(0, 99, 20), some(1, 9_999)};
+                return new long[] {oneOf(findings), some(1, 9_999)};
             case "findingAt":
-                return new long[] {some(0, 99), some(0, 4)};
+                return new long[] {oneOf(findings), some(0, 4)};
             case "pointAt":
-                return new long[] {some(0, 29), some(0, 4)};
+                return new long[] {oneOf(points), some(0, 4)};
             case "due":
-                return new long[] {Math.min(99_999L, todayAtMost + (long) small(0, 5_000, 50)), some(0, 12)};
+                return new long[] {Math.min(99_999L, today + (long) small(0, 5_000, 50)), oneOf(points)};
             case "question":
                 int q = some(0, 15);
                 return new long[] {q, next(q), next(q), random.nextInt(3) == 0 ? 0 : some(0, 50)};
             case "list":
-                return new long[] {some(0, 12), random.nextInt()};
+                return new long[] {oneOf(points), random.nextInt()};
             case "walk":
-                return new long[] {told(), some(0, 7)};
+                return new long[] {told(), random.nextInt(3) == 0 ? some(0, 7) : some(0, Math.min(7, points))};
             case "stop":
                 return new long[] {some(0, 7)};
             case "rules":
                 return new long[] {small(0, 10_000_000, 1_000), small(0, 1_000_000, 6_000)};
             case "permit":
-                int from = small(0, 9_999_999, 5_000);
-                return new long[] {from, from + (long) small(1, 100_000, 3_000), small(1, 1_000_000, 300)};
+                int from = random.nextInt(3) == 0 ? small(0, 9_999_999, 5_000) : some(0, 200_000);
+                return new long[] {from, from + (long) small(1, 100_000, 3_000), small(1, 1_000_000, 20)};
             case "ground":
                 return groundEdges();
             case "touches":
-                return new long[] {some(0, 29)};
+                return new long[] {oneOf(permits)};
             case "surprise":
                 return new long[] {random.nextInt()};
             default:
@@ -193,22 +226,22 @@ public final class RandomRunsTest {
     }
 
     private int nextDay() {
-        int day = todayAtMost + small(0, 3_000, 10);
+        int day = today + small(0, 3_000, 10);
         if (random.nextInt(20) == 0) {
             day = some(0, 99_999);
         }
-        if (day >= todayAtMost && day <= Math.min(99_999, todayAtMost + 20_000)) {
-            todayAtMost = day;
+        if (day >= today && day <= Math.min(99_999, today + 20_000)) {
+            today = day;
             return day;
         }
-        return random.nextInt(2) == 0 ? todayAtMost - 1 : 100_000;
+        return random.nextInt(2) == 0 ? today - 1 : 100_000;
     }
 
     private long told() {
         long bits = random.nextLong() << 35;
         int first = random.nextInt(8);
         for (int i = 0; i < 7; i++) {
-            long point = random.nextInt(12) == 0 ? random.nextInt(32) : (first + i * 3) % 10;
+            long point = random.nextInt(25) == 0 ? random.nextInt(32) : (first + i * 3L) % Math.max(1, points);
             bits |= point << (5 * i);
         }
         return bits;
@@ -228,72 +261,33 @@ public final class RandomRunsTest {
         return random.nextInt(3) == 0 ? some(-10_000_000, 10_000_000) : some(-15_000, 15_000);
     }
 
-    private static IntSupplier nothing(Runnable call) {
-        return () -> {
-            call.run();
-            return 0;
-        };
-    }
-
-    private IntSupplier onRows(String name, long[] g) {
-        int[] n = ints(g);
-        switch (name) {
-            case "weight": return nothing(() -> rows.weight(n[0], n[1]));
-            case "steps": return nothing(() -> rows.steps(n[0], n[1], n[2]));
-            case "interval": return nothing(() -> rows.interval(n[0], n[1], n[2]));
-            case "point": return () -> rows.point(n[0], n[1], n[2], n[3], n[4]);
-            case "day": return nothing(() -> rows.day(n[0]));
-            case "visit": return nothing(() -> rows.visit(n[0]));
-            case "finding": return () -> rows.finding(n[0], n[1], n[2]);
-            case "done": return nothing(() -> rows.done(n[0], n[1]));
-            case "findingAt": return () -> rows.findingAt(n[0], n[1]);
-            case "pointAt": return () -> rows.pointAt(n[0], n[1]);
-            case "due": return () -> rows.due(n[0], n[1]);
-            case "question": return nothing(() -> rows.question(n[0], n[1], n[2], n[3]));
-            case "list": return () -> rows.list(n[0], n[1]);
-            case "walk": return () -> rows.walk(g[0], n[1]);
-            case "stop": return () -> rows.stop(n[0]);
-            case "rules": return nothing(() -> rows.rules(n[0], n[1]));
-            case "permit": return () -> rows.permit(n[0], n[1], n[2]);
-            case "ground": return nothing(() -> rows.ground(n[0], n[1], n[2], n[3]));
-            case "clash": return rows::clash;
-            case "touches": return () -> rows.touches(n[0]);
-            default: return () -> rows.surprise(n[0]);
+    /** An answer as a text, or the exception's name behind "throws.": the form that is compared. */
+    private static String outcome(Map<String, Method> methods, Object object, String name, long[] args) {
+        Method method = methods.get(name);
+        Object[] given = new Object[args.length];
+        for (int i = 0; i < args.length; i++) {
+            if (method.getParameterTypes()[i] == long.class) {
+                given[i] = args[i];
+            } else {
+                given[i] = (int) args[i];
+            }
+        }
+        try {
+            return String.valueOf(method.invoke(object, given));
+        } catch (InvocationTargetException e) {
+            return "throws." + e.getCause().getClass().getSimpleName();
+        } catch (IllegalAccessException e) {
+            throw new IllegalStateException(e);
         }
     }
 
-    private IntSupplier onModel(String name, long[] g) {
-        int[] n = ints(g);
-        switch (name) {
-            case "weight": return nothing(() -> model.weight(n[0], n[1]));
-            case "steps": return nothing(() -> model.steps(n[0], n[1], n[2]));
-            case "interval": return nothing(() -> model.interval(n[0], n[1], n[2]));
-            case "point": return () -> model.point(n[0], n[1], n[2], n[3], n[4]);
-            case "day": return nothing(() -> model.day(n[0]));
-            case "visit": return nothing(() -> model.visit(n[0]));
-            case "finding": return () -> model.finding(n[0], n[1], n[2]);
-            case "done": return nothing(() -> model.done(n[0], n[1]));
-            case "findingAt": return () -> model.findingAt(n[0], n[1]);
-            case "pointAt": return () -> model.pointAt(n[0], n[1]);
-            case "due": return () -> model.due(n[0], n[1]);
-            case "question": return nothing(() -> model.question(n[0], n[1], n[2], n[3]));
-            case "list": return () -> model.list(n[0], n[1]);
-            case "walk": return () -> model.walk(g[0], n[1]);
-            case "stop": return () -> model.stop(n[0]);
-            case "rules": return nothing(() -> model.rules(n[0], n[1]));
-            case "permit": return () -> model.permit(n[0], n[1], n[2]);
-            case "ground": return nothing(() -> model.ground(n[0], n[1], n[2], n[3]));
-            case "clash": return model::clash;
-            case "touches": return () -> model.touches(n[0]);
-            default: return () -> model.surprise(n[0]);
+    private static Map<String, Method> methodsOf(Class<?> owner) {
+        Map<String, Method> methods = new HashMap<>();
+        for (Method method : owner.getDeclaredMethods()) {
+            if (!Modifier.isPrivate(method.getModifiers())) {
+                methods.put(method.getName(), method);
+            }
         }
-    }
-
-    private static int[] ints(long[] args) {
-        int[] n = new int[args.length];
-        for (int i = 0; i < n.length; i++) {
-            n[i] = (int) args[i];
-        }
-        return n;
+        return methods;
     }
 }

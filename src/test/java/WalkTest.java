@@ -37,6 +37,10 @@ public final class WalkTest {
         checkStops(x, 2);
         Check.equal("round a square", x.walk(told(0, 1, 2), 3), 40);
         checkStops(x, 0, 2, 1);
+        Check.equal("round a square, told otherwise", x.walk(told(1, 0, 2), 3), 40);
+        checkStops(x, 1, 2, 0);
+        Check.equal("one after three", x.walk(told(1), 1), 20);
+        Check.equal("two after one", x.walk(told(2, 0), 2), 40);
         InspectRows far = new InspectRows();
         far.point(0, 0, 0, -10_000, -10_000);
         far.point(0, 0, 0, 10_000, 10_000);
@@ -106,7 +110,7 @@ public final class WalkTest {
         Check.refuses("the least stop", Check.RANGE, () -> x.stop(Integer.MIN_VALUE));
         x.walk(told(0), 1);
         checkStops(x, 0);
-        x.walk(0L, 0);
+        Check.equal("none after some", x.walk(0L, 0), 0);
         checkStops(x);
     }
 
@@ -131,6 +135,9 @@ public final class WalkTest {
             long in32Bits = Math.floorMod(seed * 1_103_515_245L + 12_345, 4_294_967_296L);
             Check.equal("seed " + seed + " of seven", x.surprise(seed), in32Bits / 256 % 7);
         }
+        // Seed 30 ends in 255 and seed 131 in 0 ahead of the shift: 12,345 is seen to be exact.
+        Check.equal("seed 30 of seven", x.surprise(30), 11_877_728 % 7);
+        Check.equal("seed 131 of seven", x.surprise(131), 11_041_362 % 7);
         Check.equal("a surprise is no visit", x.pointAt(0, 2), -1);
     }
 }
