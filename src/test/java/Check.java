@@ -11,6 +11,25 @@ final class Check {
     private Check() {
     }
 
+    /** A test that an exception ends is told as wrong, and those behind it still run. */
+    static void test(String name, Runnable body) {
+        try {
+            body.run();
+        } catch (RuntimeException e) {
+            checks++;
+            report(name + " was ended by " + e + " at " + place(e));
+        }
+    }
+
+    private static String place(RuntimeException e) {
+        for (StackTraceElement frame : e.getStackTrace()) {
+            if (frame.getClassName().endsWith("Test")) {
+                return frame.toString();
+            }
+        }
+        return "an unknown place";
+    }
+
     static void equal(String what, long got, long want) {
         checks++;
         if (got != want) {
@@ -22,6 +41,15 @@ final class Check {
         checks++;
         if (!holds) {
             report(what);
+        }
+    }
+
+    static void takes(String what, Runnable call) {
+        checks++;
+        try {
+            call.run();
+        } catch (RuntimeException e) {
+            report(what + " threw " + e.getClass().getName() + ", due is that it is taken");
         }
     }
 

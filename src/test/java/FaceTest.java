@@ -40,6 +40,7 @@ public final class FaceTest {
         checkMethods(face);
         checkConstructors(face);
         checkFields(face);
+        checkStaticFields(face);
         checkInnerClasses(face);
         Check.finish();
     }
@@ -69,21 +70,26 @@ public final class FaceTest {
             Modifier.isPublic(constructors[0].getModifiers()) && constructors[0].getParameterCount() == 0);
     }
 
-    private static void checkFields(Class<?> owner) {
-        for (Field field : owner.getDeclaredFields()) {
+    private static void checkFields(Class<?> face) {
+        for (Field field : face.getDeclaredFields()) {
             Check.isTrue(field + " is private", Modifier.isPrivate(field.getModifiers()));
+        }
+    }
+
+    private static void checkStaticFields(Class<?> owner) {
+        for (Field field : owner.getDeclaredFields()) {
             boolean isStatic = Modifier.isStatic(field.getModifiers());
             Check.isTrue(field + " is final", !isStatic || Modifier.isFinal(field.getModifiers()));
         }
     }
 
     private static void checkInnerClasses(Class<?> face) {
-        Check.isTrue("at most twelve classes", face.getDeclaredClasses().length < 12);
+        Check.isTrue("at most some twelve classes", face.getDeclaredClasses().length <= 12);
         for (Class<?> inner : face.getDeclaredClasses()) {
             int modifiers = inner.getModifiers();
             Check.isTrue(inner + " is static", Modifier.isStatic(modifiers));
             Check.isTrue(inner + " is hidden", !Modifier.isPublic(modifiers) && !Modifier.isProtected(modifiers));
-            checkFields(inner);
+            checkStaticFields(inner);
         }
     }
 

@@ -1,16 +1,17 @@
 /** Promises 8 to 10, 13 and 14: findings, questions and lists. */
 public final class FindingsTest {
     public static void main(String[] args) {
-        promise8Finding();
-        promise8TimeOfTheClassAhead();
-        promise8Refusals();
-        promise9Done();
-        promise10FindingAt();
-        promise13Question();
-        promise14List();
-        promise14ListByAnswers();
-        promise14TimeOfTheClassAhead();
-        promise14Room();
+        Check.test("promise 8, finding", FindingsTest::promise8Finding);
+        Check.test("promise 8, time of the class ahead", FindingsTest::promise8TimeOfTheClassAhead);
+        Check.test("promise 8, refusals", FindingsTest::promise8Refusals);
+        Check.test("promise 9, done", FindingsTest::promise9Done);
+        Check.test("promise 9, proofs at their ends", FindingsTest::promise9ProofsAtTheirEnds);
+        Check.test("promise 10, finding at", FindingsTest::promise10FindingAt);
+        Check.test("promise 13, question", FindingsTest::promise13Question);
+        Check.test("promise 14, list", FindingsTest::promise14List);
+        Check.test("promise 14, list by answers", FindingsTest::promise14ListByAnswers);
+        Check.test("promise 14, time of the class ahead", FindingsTest::promise14TimeOfTheClassAhead);
+        Check.test("promise 14, room", FindingsTest::promise14Room);
         Check.finish();
     }
 
@@ -96,6 +97,24 @@ public final class FindingsTest {
         x.done(1, 1);
         Check.equal("a missed one done", x.findingAt(1, 2), 0);
         Check.equal("risk without both", x.pointAt(0, 0), 0);
+    }
+
+    private static void promise9ProofsAtTheirEnds() {
+        InspectRows x = withPoints(1);
+        int[] proofs = {1, 2, 9_998, 9_999};
+        for (int proof : proofs) {
+            int finding = x.finding(0, 1, 0);
+            Check.equal("no proof of finding " + finding, x.findingAt(finding, 4), 0);
+            for (int wrong : new int[] {0, -1, 10_000, Integer.MIN_VALUE, Integer.MAX_VALUE}) {
+                Check.refuses("done(" + finding + ", " + wrong + ")", Check.RANGE, () -> x.done(finding, wrong));
+                Check.equal("no proof after " + wrong, x.findingAt(finding, 4), 0);
+            }
+            x.done(finding, proof);
+            Check.equal("the proof " + proof, x.findingAt(finding, 4), proof);
+            Check.refuses("done again by " + proof, Check.STATE, () -> x.done(finding, proof));
+            Check.refuses("done again by another", Check.STATE, () -> x.done(finding, 5));
+            Check.equal("the proof " + proof + " stays", x.findingAt(finding, 4), proof);
+        }
     }
 
     private static void checkFinding(InspectRows x, String when, int finding, int... due) {

@@ -6,31 +6,43 @@ import java.util.regex.Pattern;
 
 /** The rules of LANGUAGE.md that can be seen in the text of the class. */
 public final class LanguageTest {
+    private static final String EXCEPTIONS = "(IllegalState|IllegalArgument|IndexOutOfBounds|Arithmetic"
+        + "|UnsupportedOperation|NoSuchElement|Runtime)Exception";
     private static final Path FILE = Path.of("src/main/java/InspectRows.java");
 
     public static void main(String[] args) throws IOException {
         String text = Files.readString(FILE);
-        String code = withoutCommentsAndTexts(text);
+        String code = withoutComments(text).replaceAll("\"[^\"\n]*\"", "\"\"");
         Check.isTrue("characters above 255", text.chars().allMatch(c -> c <= 255));
-        // Rules 2, 4, 6, 7 and 13.
-        lacks(code, "\\b(package|import)\\b");
-        lacks(code, "->|::");
-        lacks(code, "\\b(try|catch|finally|synchronized|assert|instanceof|record|native|volatile)\\b");
-        lacks(code, "\\b(System|Thread|Random|Object|var)\\b");
-        lacks(code, "\\b\\w+Exact\\b");
-        lacks(code, "\\b(hashCode|toString|equals|getMessage)\\b");
-        lacks(code, "\\b(public|protected)\\s+static\\b");
+        // Rules 1 and 2.
+        lacks(code, "\\bpackage\\b");
+        lacks(withoutSwitchArrows(code), "->|::");
+        // Rule 4.
+        lacks(code, "\\bimport\\b(?! java\\.util\\.(ArrayList|List|Arrays|Iterator|NoSuchElementException);)");
+        lacks(code, "\\w+Exact\\b");
+        lacks(code, "\\bSystem\\.(?!arraycopy\\b)");
+        // Rule 5.
         lacks(code, "\\bstatic\\s*\\{");
-        lacks(code, "\\bwhile\\b");
-        throwsAreWritten(text);
+        // Rule 6.
+        lacks(code, "\\b(finally|synchronized|assert)\\b|\\btry\\s*\\(");
+        lacks(code, "\\b(getMessage|getCause|printStackTrace|hashCode)\\b");
+        lacks(code, "\\bextends\\s+\\w*(Exception|Error|Throwable)\\b");
+        lacks(code, "\\bcatch\\s*\\(\\s*(final\\s+)?(?!" + EXCEPTIONS + "\\b)\\w+");
+        // Rule 13.
+        lacks(code, "\\b(Thread|Random|Runtime|Clock|Instant|File|Files|Process|native|volatile)\\b");
+        throwsAreWritten(withoutComments(text));
         rowsAreMadeOnce(code);
         parametersAreFew(code);
         methodsAreShort(code);
         Check.finish();
     }
 
-    private static String withoutCommentsAndTexts(String text) {
-        return text.replaceAll("(?s)/\\*.*?\\*/", "").replaceAll("//[^\n]*", "").replaceAll("\"[^\"\n]*\"", "\"\"");
+    private static String withoutComments(String text) {
+        return text.replaceAll("(?s)/\\*.*?\\*/", "").replaceAll("//[^\n]*", "");
+    }
+
+    private static String withoutSwitchArrows(String code) {
+        return code.replaceAll("\\b(case [^:;{}]*?|default\\s*)->", "");
     }
 
     private static void lacks(String code, String pattern) {
@@ -43,19 +55,17 @@ public final class LanguageTest {
         Matcher found = Pattern.compile("\\bthrow\\b[^;]*;").matcher(text);
         while (found.find()) {
             Check.isTrue("not a written throw: " + found.group(),
-                found.group().matches("throw new (IllegalArgument|IndexOutOfBounds|IllegalState|UnsupportedOperation)"
-                    + "Exception\\((\"[^\"]*\")?\\);"));
+                found.group().matches("throw new " + EXCEPTIONS + "\\((\"[^\"]*\")?\\);"));
         }
     }
 
     /** "All memory is rows made once": what is made, but for exceptions, fills a final field. */
     private static void rowsAreMadeOnce(String code) {
-        Matcher found = Pattern.compile("(\\w+ = |throw )?new [^;]*;").matcher(code);
+        Matcher found = Pattern.compile("(\\w+) *= *new\\b[^;]*;|(\\bthrow +)?\\bnew\\b[^;]*;").matcher(code);
         while (found.find()) {
-            String made = found.group(1) == null ? "" : found.group(1);
-            String name = made.replace(" = ", "");
-            boolean isRow = !name.isEmpty() && code.matches("(?s).*private final [\\w\\[\\]]+ " + name.trim() + ";.*");
-            Check.isTrue("made outside a row: " + found.group(), made.equals("throw ") || isRow);
+            boolean isRow = found.group(1) != null
+                && Pattern.compile("\\bfinal [\\w\\[\\]]+ " + found.group(1) + "\\b").matcher(code).find();
+            Check.isTrue("made outside a row: " + found.group(), found.group(2) != null || isRow);
         }
     }
 

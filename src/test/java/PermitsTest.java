@@ -1,18 +1,18 @@
 /** Promises 17 to 21: rules, permits, grounds, clashes, days that are touched. */
 public final class PermitsTest {
     public static void main(String[] args) {
-        promise17Rules();
-        promise17RulesFromNowOn();
-        promise18Ranges();
-        promise18Space();
-        promise18Distance();
-        promise18DistanceOnEachSide();
-        promise18MinutesInCommon();
-        promise18Room();
-        promise19Ground();
-        promise19GroundIsKept();
-        promise20Clash();
-        promise21Touches();
+        Check.test("promise 17, rules", PermitsTest::promise17Rules);
+        Check.test("promise 17, rules from now on", PermitsTest::promise17RulesFromNowOn);
+        Check.test("promise 18, ranges", PermitsTest::promise18Ranges);
+        Check.test("promise 18, space", PermitsTest::promise18Space);
+        Check.test("promise 18, distance", PermitsTest::promise18Distance);
+        Check.test("promise 18, distance on each side", PermitsTest::promise18DistanceOnEachSide);
+        Check.test("promise 18, minutes in common", PermitsTest::promise18MinutesInCommon);
+        Check.test("promise 18, room", PermitsTest::promise18Room);
+        Check.test("promise 19, ground", PermitsTest::promise19Ground);
+        Check.test("promise 19, ground is kept", PermitsTest::promise19GroundIsKept);
+        Check.test("promise 20, clash", PermitsTest::promise20Clash);
+        Check.test("promise 21, touches", PermitsTest::promise21Touches);
         Check.finish();
     }
 

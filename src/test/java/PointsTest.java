@@ -1,18 +1,18 @@
 /** Promises 1 to 7, 11 and 12: kinds, steps, intervals, points, the day, visits, who is due. */
 public final class PointsTest {
     public static void main(String[] args) {
-        promise1NewObject();
-        promise2Weight();
-        promise3Steps();
-        promise4Interval();
-        promise5Point();
-        promise6Day();
-        promise7Visit();
-        promise11PointAt();
-        promise12DueByInterval();
-        promise12DueInOrder();
-        promise12DueByThePresentClass();
-        promise12DueRefusals();
+        Check.test("promise 1, new object", PointsTest::promise1NewObject);
+        Check.test("promise 2, weight", PointsTest::promise2Weight);
+        Check.test("promise 3, steps", PointsTest::promise3Steps);
+        Check.test("promise 4, interval", PointsTest::promise4Interval);
+        Check.test("promise 5, point", PointsTest::promise5Point);
+        Check.test("promise 6, day", PointsTest::promise6Day);
+        Check.test("promise 7, visit", PointsTest::promise7Visit);
+        Check.test("promise 11, point at", PointsTest::promise11PointAt);
+        Check.test("promise 12, due by interval", PointsTest::promise12DueByInterval);
+        Check.test("promise 12, due in order", PointsTest::promise12DueInOrder);
+        Check.test("promise 12, due by the present class", PointsTest::promise12DueByThePresentClass);
+        Check.test("promise 12, due refusals", PointsTest::promise12DueRefusals);
         Check.finish();
     }
 

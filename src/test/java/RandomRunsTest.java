@@ -1,29 +1,21 @@
-import java.lang.reflect.InvocationTargetException;
-import java.lang.reflect.Method;
-import java.lang.reflect.Modifier;
 import java.util.ArrayList;
 import java.util.Arrays;
-import java.util.HashMap;
 import java.util.List;
-import java.util.Map;
 import java.util.Random;
 
 /**
- * Runs of 512 random calls, compared with the plain model. After one refusal in four, and after every
- * sixteenth call, the whole state that can be asked for is compared too, so that what is refused is
- * seen to change nothing.
+ * Runs of 512 random calls, compared with the plain model. Behind each refusal some of the state is asked
+ * for, so that what is refused is seen to change nothing.
  */
 public final class RandomRunsTest {
-    private static final int RUNS = 300;
-    private static final int CALLS = 512;
+    private static final int RUNS = 1_500;
+    private static final int ASKS_BEHIND_A_REFUSAL = 3;
     private static final int EDGES_IN_100 = 6;
     private static final String[] NAMES = {
         "weight", "steps", "interval", "point", "day", "visit", "finding", "done", "findingAt", "pointAt",
         "due", "question", "list", "walk", "stop", "rules", "permit", "ground", "clash", "touches", "surprise",
     };
-
-    private static final Map<String, Method> OF_ROWS = methodsOf(InspectRows.class);
-    private static final Map<String, Method> OF_MODEL = methodsOf(PlainModel.class);
+    private static final String[] ASKS = {"findingAt", "pointAt", "due", "stop", "clash", "touches", "surprise"};
 
     private final Random random;
     private final InspectRows rows = new InspectRows();
@@ -34,14 +26,15 @@ public final class RandomRunsTest {
     private int points = 0;
     private int findings = 0;
     private int permits = 0;
+    private int questions = 0;
 
     private RandomRunsTest(int seed) {
         random = new Random(seed);
         for (int i = 0; i < liking.length; i++) {
             liking[i] = 1 + random.nextInt(8);
         }
-        // Each third of the runs is full of points, findings or permits before it ends.
-        liking[indexOf(new String[] {"point", "finding", "permit"}[seed % 3])] += 30;
+        // Most runs are full of points, permits or findings, made one by one or by lists, before they end.
+        liking[indexOf(new String[] {"point", "permit", "finding", "list"}[seed % 4])] += 60;
     }
 
     public static void main(String[] args) {
@@ -52,16 +45,23 @@ public final class RandomRunsTest {
     }
 
     private void run() {
-        for (int i = 0; i < CALLS; i++) {
-            String name = pick();
+        int asks = 0;
+        while (calls.size() < Calls.PROMISED) {
+            String name = asks > 0 ? ASKS[random.nextInt(ASKS.length)] : pick();
             long[] args = argumentsOf(name);
-            if (!same(name, args)) {
+            String got = Calls.outcome(rows, name, args);
+            String due = Calls.outcome(model, name, args);
+            calls.add(Calls.text(name, args) + "=" + got);
+            Check.isTrue(Calls.text(name, args) + " answered " + got + ", due is " + due, got.equals(due));
+            if (!got.equals(due)) {
                 System.out.println("the run: " + String.join(" ", calls));
                 return;
             }
-            if (i % 16 == 0 && !sameState()) {
-                System.out.println("the run, with the state unlike: " + String.join(" ", calls));
-                return;
+            if (Calls.isRefused(got)) {
+                asks = asks > 0 ? asks - 1 : ASKS_BEHIND_A_REFUSAL;
+            } else {
+                asks = Math.max(0, asks - 1);
+                count(name, got);
             }
         }
     }
@@ -85,66 +85,11 @@ public final class RandomRunsTest {
         return NAMES[0];
     }
 
-    private boolean same(String name, long[] args) {
-        StringBuilder text = new StringBuilder(name);
-        for (int i = 0; i < args.length; i++) {
-            text.append(i == 0 ? "(" : ", ").append(args[i]);
-        }
-        text.append(args.length == 0 ? "()" : ")");
-        String got = outcome(OF_ROWS, rows, name, args);
-        String due = outcome(OF_MODEL, model, name, args);
-        calls.add(text + "=" + got);
-        Check.isTrue(text + " answered " + got + ", due is " + due, got.equals(due));
-        if (!got.equals(due)) {
-            return false;
-        }
-        boolean refused = got.startsWith("throws.");
-        if (!refused) {
-            count(name, due);
-        }
-        return !refused || random.nextInt(4) != 0 || sameState();
-    }
-
     /** How many there are, so that most calls are of something that is there. */
     private void count(String name, String answer) {
         points += name.equals("point") ? 1 : 0;
         permits += name.equals("permit") ? 1 : 0;
         findings += name.equals("finding") ? 1 : name.equals("list") ? Integer.parseInt(answer) : 0;
-    }
-
-    private boolean sameState() {
-        for (int what = 0; what < 5; what++) {
-            for (int point = 0; point <= points; point++) {
-                if (!sameAsked("pointAt", point, what)) {
-                    return false;
-                }
-            }
-            for (int finding = 0; finding <= findings; finding++) {
-                if (!sameAsked("findingAt", finding, what)) {
-                    return false;
-                }
-            }
-        }
-        for (int i = 0; i < 8; i++) {
-            if (!sameAsked("stop", i) || !sameAsked("due", today, i)) {
-                return false;
-            }
-        }
-        for (int permit = 0; permit <= permits; permit++) {
-            if (!sameAsked("touches", permit)) {
-                return false;
-            }
-        }
-        return sameAsked("clash") && sameAsked("surprise", 1);
-    }
-
-    private boolean sameAsked(String name, long... args) {
-        String got = outcome(OF_ROWS, rows, name, args);
-        String due = outcome(OF_MODEL, model, name, args);
-        if (!got.equals(due)) {
-            Check.isTrue("then " + name + Arrays.toString(args) + " answered " + got + ", due is " + due, false);
-        }
-        return got.equals(due);
     }
 
     /** Mostly within low .. high, at times on an edge, just outside, or far outside. */
@@ -190,7 +135,8 @@ public final class RandomRunsTest {
             case "due":
                 return new long[] {Math.min(99_999L, today + (long) small(0, 5_000, 50)), oneOf(points)};
             case "question":
-                int q = some(0, 15);
+                // One after the other at first: a list needs most of them.
+                int q = questions < 16 && random.nextInt(4) != 0 ? questions++ : some(0, 15);
                 return new long[] {q, next(q), next(q), random.nextInt(3) == 0 ? 0 : some(0, 50)};
             case "list":
                 return new long[] {oneOf(points), random.nextInt()};
@@ -259,35 +205,5 @@ public final class RandomRunsTest {
 
     private int groundEdge() {
         return random.nextInt(3) == 0 ? some(-10_000_000, 10_000_000) : some(-15_000, 15_000);
-    }
-
-    /** An answer as a text, or the exception's name behind "throws.": the form that is compared. */
-    private static String outcome(Map<String, Method> methods, Object object, String name, long[] args) {
-        Method method = methods.get(name);
-        Object[] given = new Object[args.length];
-        for (int i = 0; i < args.length; i++) {
-            if (method.getParameterTypes()[i] == long.class) {
-                given[i] = args[i];
-            } else {
-                given[i] = (int) args[i];
-            }
-        }
-        try {
-            return String.valueOf(method.invoke(object, given));
-        } catch (InvocationTargetException e) {
-            return "throws." + e.getCause().getClass().getSimpleName();
-        } catch (IllegalAccessException e) {
-            throw new IllegalStateException(e);
-        }
-    }
-
-    private static Map<String, Method> methodsOf(Class<?> owner) {
-        Map<String, Method> methods = new HashMap<>();
-        for (Method method : owner.getDeclaredMethods()) {
-            if (!Modifier.isPrivate(method.getModifiers())) {
-                methods.put(method.getName(), method);
-            }
-        }
-        return methods;
     }
 }

@@ -1,12 +1,13 @@
 /** Promises 15, 16 and 22: walks, their stops, surprises. */
 public final class WalkTest {
     public static void main(String[] args) {
-        promise15LeastOfAllOrders();
-        promise15FirstOfTheLeast();
-        promise15Refusals();
-        promise15RefusalsWithoutPoints();
-        promise16Stop();
-        promise22Surprise();
+        Check.test("promise 15, least of all orders", WalkTest::promise15LeastOfAllOrders);
+        Check.test("promise 15, first of the least", WalkTest::promise15FirstOfTheLeast);
+        Check.test("promise 15, each count of points", WalkTest::promise15EachCount);
+        Check.test("promise 15, refusals", WalkTest::promise15Refusals);
+        Check.test("promise 15, refusals without points", WalkTest::promise15RefusalsWithoutPoints);
+        Check.test("promise 16, stop", WalkTest::promise16Stop);
+        Check.test("promise 22, surprise", WalkTest::promise22Surprise);
         Check.finish();
     }
 
@@ -65,6 +66,23 @@ public final class WalkTest {
         checkStops(x, 8, 0);
         Check.equal("bits behind the n are free", x.walk(-1L << 5 | 7, 1), 16);
         checkStops(x, 7);
+    }
+
+    private static void promise15EachCount() {
+        InspectRows x = new InspectRows();
+        for (int i = 0; i < 8; i++) {
+            x.point(0, 0, 0, -10 * i, i % 2);
+        }
+        long told = told(1, 2, 3, 4, 5, 6, 7, 0);
+        for (int n = 0; n <= 7; n++) {
+            int upAndDown = n == 0 ? 0 : 2;
+            Check.equal("to " + n + " points", x.walk(told, n), 20 * n + upAndDown);
+            Check.equal("behind the last of " + n, x.stop(n), -1);
+            Check.isTrue("stop " + (n - 1) + " of " + n, n == 0 || x.stop(n - 1) >= 0);
+        }
+        Check.refuses("to 8 points", Check.RANGE, () -> x.walk(told, 8));
+        Check.refuses("to -1 points", Check.RANGE, () -> x.walk(told, -1));
+        Check.equal("the walk to 7 stays", x.stop(6) >= 0 ? x.stop(7) : 0, -1);
     }
 
     private static void promise15Refusals() {
